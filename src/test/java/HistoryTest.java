@@ -22,6 +22,7 @@ public final class HistoryTest {
         digestOfANewOne();
         digestWithinALesson();
         digestBehindLessons();
+        digestOfTheFirstAndLastPair();
         CHECK.end();
     }
 
@@ -94,16 +95,21 @@ public final class HistoryTest {
         }
     }
 
-    /** As many lessons as the 512 calls of an object can finish. */
+    /** The calls of an object's life finish 255 lessons, and leave one call behind them. */
     private static void manyLessons() {
         CHECK.promise("19 lessons, 20 lesson");
+        CHECK.is("lessons()", 255, behindManyLessons().lessons());
+        CHECK.is("lesson(254, 2)", 255, behindManyLessons().lesson(254, 2));
+        CHECK.is("lesson(0, 2)", 1, behindManyLessons().lesson(0, 2));
+        CHECK.is("pace()", 900, behindManyLessons().pace());
+    }
+
+    private static TypingTutor behindManyLessons() {
         TypingTutor tutor = Typing.withWords("a");
-        for (int time = 1; time <= 254; time++) {
+        for (int time = 1; time <= 255; time++) {
             Typing.lesson(tutor, 0, "a", time);
         }
-        CHECK.is("lessons()", 254, tutor.lessons());
-        CHECK.is("lesson(253, 2)", 254, tutor.lesson(253, 2));
-        CHECK.is("pace()", 900, tutor.pace());
+        return tutor;
     }
 
     /** Types the lesson that is open, with a mistake and a right stroke at its first letters. */
@@ -286,6 +292,22 @@ public final class HistoryTest {
         d = mixed(d, 1, 0, 0, 2);
         d = mixed(d, 0, 2, 2, 2, 1000, 120, 2, 0, 2000, 60);
         CHECK.is("digest()", mixed(d, 106 - 10), tutor.digest());
+    }
+
+    private static void digestOfTheFirstAndLastPair() {
+        CHECK.promise("24 digest");
+        TypingTutor tutor = Typing.withWords("zz", "aa");
+        Typing.lesson(tutor, 0, "zz", 500);
+        Typing.lesson(tutor, 1, "aa", 500);
+        long d = mixed(191, 2, 'z' * 256 + 'z', 'a' * 256 + 'a', 2, 0, 675);
+        for (int key = 1; key < 25; key++) {
+            d = mixed(d, 0, 0, 500);
+        }
+        d = mixed(d, 2, 0, 675);
+        d = mixed(d, 0, 1, 0, 600, 675, 1, 0, 600);
+        d = mixed(d, 0, 0, 0, 0);
+        d = mixed(d, 0, 2, 2, 2, 1000, 120, 2, 2, 1000, 120);
+        CHECK.is("digest()", mixed(d, 112), tutor.digest());
     }
 
     private static long mixed(long start, long... numbers) {

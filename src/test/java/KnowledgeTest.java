@@ -39,6 +39,9 @@ public final class KnowledgeTest {
         Typing.lesson(tutor, 0, "x", 4999);
         checkKey(tutor, 'x', 4, 0, 405);
         checkKey(tutor, 'y', 0, 0, 500);
+        TypingTutor slow = Typing.withWords("x");
+        Typing.lesson(slow, 0, "x", 5000);
+        checkKey(slow, 'x', 1, 0, 375);
     }
 
     private static void keyBehindMistakes() {

@@ -11,6 +11,7 @@ public final class LessonsTest {
         openRefuses();
         openTakesTheWeakest();
         openCountsRepeatedPairs();
+        openTakesTheFirstOfEqualOnes();
         openWord();
         giveUp();
         giveUpKeepsWhatWasLearned();
@@ -96,6 +97,17 @@ public final class LessonsTest {
         again.openWord(0);
         again.giveUp();
         checkLesson("behind another lesson", again, 1, 0);
+    }
+
+    private static void openTakesTheFirstOfEqualOnes() {
+        CHECK.promise("7 open");
+        // x falls to 450, and weighs 550 then, as abc does behind ab
+        TypingTutor first = Typing.withWords("x", "ab", "abc");
+        Typing.lesson(first, 0, "x", 3500);
+        checkLesson("equal ones", first, 3, 1, 0, 2);
+        TypingTutor last = Typing.withWords("ab", "abc", "x");
+        Typing.lesson(last, 2, "x", 3500);
+        checkLesson("equal ones, turned", last, 3, 0, 1, 2);
     }
 
     private static void checkLesson(String call, TypingTutor tutor, int words, int... due) {
