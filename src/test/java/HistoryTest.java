@@ -59,6 +59,8 @@ public final class HistoryTest {
         checkLesson(tutor, 0, 3, 1, 1500, 120);
         Typing.lesson(tutor, 1, "a", 5000);
         checkLesson(tutor, 3, 1, 1, 5000, 12);
+        Typing.lesson(tutor, 1, "a", 1);
+        checkLesson(tutor, 4, 1, 1, 1, 60000);
     }
 
     private static void lessonOfFastStrokes() {

@@ -93,6 +93,9 @@ public final class LessonsTest {
         checkLesson("words' ends", Typing.withWords("ab", "cd", "bc", "abx"), 4, 0, 1, 2, 3);
         // a pair that two words of the lesson have costs no more than one
         checkLesson("costs once", Typing.withWords("abc", "dab", "abe", "x"), 4, 0, 1, 2, 3);
+        // a word's last letter and its first make no pair, not even where all 8 bytes are taken
+        checkLesson("eight letters", Typing.withWords("abcdefgh", "ha", "ij"), 3, 0, 1, 2);
+        checkLesson("eight letters, turned", Typing.withWords("ha", "abcdefgh", "ij"), 3, 0, 1, 2);
         TypingTutor again = Typing.withWords("ab", "cd");
         again.openWord(0);
         again.giveUp();
