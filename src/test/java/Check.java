@@ -1,4 +1,6 @@
 import java.util.function.LongSupplier;
+import java.util.function.Supplier;
+import java.util.function.ToLongFunction;
 
 /** Counts the answers that are not the ones due, and prints them. */
 final class Check {
@@ -47,6 +49,23 @@ final class Check {
         }
         same(call, kind.getName(), got);
         same("the state behind " + call, before, stateOf(tutor));
+    }
+
+    /**
+     * The call, made of a tutor with this past, throws exactly this kind of exception, and whatever
+     * is asked and typed afterwards is answered as by a tutor of which it was never made.
+     */
+    void refused(String call, Class<? extends RuntimeException> kind, Supplier<TypingTutor> past,
+            ToLongFunction<TypingTutor> made) {
+        TypingTutor tutor = past.get();
+        String got;
+        try {
+            got = Long.toString(made.applyAsLong(tutor));
+        } catch (RuntimeException e) {
+            got = e.getClass().getName();
+        }
+        same(call, kind.getName(), got);
+        same("what follows " + call, Aftermath.of(past.get()), Aftermath.of(tutor));
     }
 
     /** A few calls only: an object has 512 of them. */

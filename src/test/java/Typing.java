@@ -24,6 +24,20 @@ final class Typing {
         return tutor;
     }
 
+    /** A word of two letters for each i, 0 to 39. */
+    static long oneOf40(int i) {
+        return number("" + (char) ('a' + i / 20) + (char) ('a' + i % 20));
+    }
+
+    /** A tutor with the first of these words, 40 at most. */
+    static TypingTutor withFirstOf40(int count) {
+        TypingTutor tutor = new TypingTutor();
+        for (int i = 0; i < count; i++) {
+            tutor.addWord(oneOf40(i));
+        }
+        return tutor;
+    }
+
     /** Strikes each key of the text; returns the kinds that were told, a digit each. */
     static String strike(TypingTutor tutor, String text, int time) {
         StringBuilder kinds = new StringBuilder();
@@ -37,5 +51,12 @@ final class Typing {
     static String lesson(TypingTutor tutor, int word, String text, int time) {
         tutor.openWord(word);
         return strike(tutor, text, time);
+    }
+
+    /** Strikes the wanted keys until so many letters were tried, without a mistake. */
+    static void typeUpTo(TypingTutor tutor, int letters, int time) {
+        for (int done = 0; done < letters; done++) {
+            tutor.strike(tutor.wanted(), time);
+        }
     }
 }

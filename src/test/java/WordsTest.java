@@ -82,18 +82,13 @@ public final class WordsTest {
         CHECK.promise("2 addWord");
         TypingTutor tutor = new TypingTutor();
         for (int i = 0; i < 40; i++) {
-            CHECK.is("addWord of word " + i, i, tutor.addWord(oneOf40(i)));
+            CHECK.is("addWord of word " + i, i, tutor.addWord(Typing.oneOf40(i)));
         }
         CHECK.refuses("addWord beyond 40", STATE, tutor, () -> tutor.addWord('a'));
-        CHECK.refuses("addWord beyond 40, there", STATE, tutor, () -> tutor.addWord(oneOf40(0)));
+        CHECK.refuses("addWord beyond 40, there", STATE, tutor, () -> tutor.addWord(Typing.oneOf40(0)));
         CHECK.refuses("addWord beyond 40, no word", ARGUMENT, tutor, () -> tutor.addWord(0));
         CHECK.is("wordCount()", 40, tutor.wordCount());
-        CHECK.is("word(39)", oneOf40(39), tutor.word(39));
-    }
-
-    /** A word for each i, 0 to 39. */
-    private static long oneOf40(int i) {
-        return Typing.number("" + (char) ('a' + i / 20) + (char) ('a' + i % 20));
+        CHECK.is("word(39)", Typing.oneOf40(39), tutor.word(39));
     }
 
     private static void addWordWithinALesson() {
@@ -111,7 +106,7 @@ public final class WordsTest {
         TypingTutor tutor = new TypingTutor();
         for (int i = 0; i < 40; i++) {
             CHECK.is("wordCount()", i, tutor.wordCount());
-            tutor.addWord(oneOf40(i));
+            tutor.addWord(Typing.oneOf40(i));
         }
         CHECK.is("wordCount()", 40, tutor.wordCount());
     }
