@@ -43,6 +43,7 @@ public final class HistoryEdgesTest {
         digestWrapsAround();
         digestOfWords();
         digestOfPairsThatWereTried();
+        digestOfTheFirstAndTheLastPair();
         digestOfMistakes();
         digestOfALesson();
         digestOfTheHistory();
@@ -377,7 +378,7 @@ public final class HistoryEdgesTest {
     }
 
     private static void plateauAtEachPlace() {
-        CHECK.promise("the greatest speed of the last 3 .. of the 3 before them (any of the three)");
+        CHECK.promise("the greatest speed of the last 3 .. of the 3 before them (any of them)");
         for (int fast = 0; fast < 6; fast++) {
             int[] times = {200, 200, 200, 200, 200, 200};
             times[fast] = 100;
@@ -544,6 +545,20 @@ public final class HistoryEdgesTest {
         checkDigest(tutor, row(of(2, zz, az, 1, 0, 600), untried(24), of(3, 1, 507),
             of(25, 1, 1, 375, 675, 1, 0, 600),
             of(0, 0, 0, 2, 0, 2, 2, 2, 1000, 120, 2, 1, 1500, 80, 96)));
+    }
+
+    private static void digestOfTheFirstAndTheLastPair() {
+        CHECK.promise("24: for each pair that was tried (0 to 675)");
+        long aa = Typing.number("aa");
+        long zz = Typing.number("zz");
+        TypingTutor tutor = Typing.withWords("zz", "aa");
+        Typing.lesson(tutor, 1, "aa", 2500);
+        checkDigest(tutor, row(of(2, zz, aa, 2, 0, 500), untried(25), of(0, 1, 0, 500),
+            of(0, 0, 0, 0, 0, 1, 2, 2, 5000, 24, 106)));
+        Typing.lesson(tutor, 0, "zz", 2500);
+        checkDigest(tutor, row(of(2, zz, aa, 2, 0, 500), untried(24), of(2, 0, 500),
+            of(0, 1, 0, 500, 675, 1, 0, 500),
+            of(0, 0, 0, 0, 0, 2, 2, 2, 5000, 24, 2, 2, 5000, 24, 112)));
     }
 
     private static void digestOfMistakes() {

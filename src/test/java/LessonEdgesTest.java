@@ -33,6 +33,7 @@ public final class LessonEdgesTest {
         pairsOfAnOldLessonCostNothing();
         pairsAcrossWordsCostNothing();
         pairOfTheLastKeys();
+        lastAndFirstLetterAreNoPair();
         weightBelow0();
         wordsAddedWithinALesson();
         openWordTakesAnyWord();
@@ -265,6 +266,16 @@ public final class LessonEdgesTest {
         checkLesson(Typing.withWords("aa", "aab", "d", "cc"), 4, 0, 3, 1, 2);
         checkLesson(Typing.withWords("az", "azb", "d", "cc"), 4, 0, 3, 1, 2);
         checkLesson(Typing.withWords("za", "zab", "d", "cc"), 4, 0, 3, 1, 2);
+    }
+
+    private static void lastAndFirstLetterAreNoPair() {
+        CHECK.promise("each pair of it (keys that follow each other; a word does not wrap around)");
+        for (int letters = 2; letters <= 8; letters++) {
+            String word = "abcdefgh".substring(0, letters);
+            String turned = "" + word.charAt(letters - 1) + 'a';
+            checkLesson(Typing.withWords(word, turned, "yz"), 3, 0, 1, 2);
+            checkLesson(Typing.withWords(turned, word, "yz"), 3, 0, 1, 2);
+        }
     }
 
     private static void weightBelow0() {

@@ -47,6 +47,7 @@ public final class StrokeEdgesTest {
         finishedByPassingOver();
         notFinishedByOneMistake();
         oneLetterAndLongestLesson();
+        everyWordOfTheLongestLesson();
         refusedStrokesAreNoMistakes();
         mistakesOfEachKind();
         mistakesOfNoKind();
@@ -383,6 +384,29 @@ public final class StrokeEdgesTest {
         CHECK.is("lesson(0, 0)", 48, all.lesson(0, 0));
         CHECK.is("lesson(0, 1)", 0, all.lesson(0, 1));
         CHECK.is("lesson(0, 2)", 480000, all.lesson(0, 2));
+    }
+
+    private static void everyWordOfTheLongestLesson() {
+        CHECK.promise("SWAP and DOUBLE: .. in the same word (of six words of eight letters)");
+        // b and p are no neighbours, and stand at the words' ends alone
+        String[] words = {"bkkkkkkp", "bllllllp", "bmmmmmmp", "bxxxxxxp", "byyyyyyp", "bzzzzzzp"};
+        TypingTutor tutor = at(0, words);
+        for (int word = 0; word < 6; word++) {
+            CHECK.is("lessonWord(" + word + ")", word, tutor.lessonWord(word));
+            // the p before this word is not ahead of its b, the b behind it not behind its p
+            CHECK.is("p at the first letter of word " + word, 4, strikeAndGoOn(tutor, 'p'));
+            Typing.typeUpTo(tutor, 6, 100);
+            CHECK.is("b at the last letter of word " + word, 4, strikeAndGoOn(tutor, 'b'));
+        }
+        CHECK.is("isOpen()", false, tutor.isOpen());
+        CHECK.is("tries of the pair p, b", 0,
+            tutor.pair(Typing.key('p'), Typing.key('b'), 0));
+    }
+
+    private static int strikeAndGoOn(TypingTutor tutor, char key) {
+        int kind = tutor.strike(Typing.key(key), 100);
+        tutor.strike(tutor.wanted(), 100);
+        return kind;
     }
 
     private static void refusedStrokesAreNoMistakes() {

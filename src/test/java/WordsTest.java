@@ -85,7 +85,8 @@ public final class WordsTest {
             CHECK.is("addWord of word " + i, i, tutor.addWord(Typing.oneOf40(i)));
         }
         CHECK.refuses("addWord beyond 40", STATE, tutor, () -> tutor.addWord('a'));
-        CHECK.refuses("addWord beyond 40, there", STATE, tutor, () -> tutor.addWord(Typing.oneOf40(0)));
+        CHECK.refuses("addWord beyond 40, there", STATE, tutor,
+            () -> tutor.addWord(Typing.oneOf40(0)));
         CHECK.refuses("addWord beyond 40, no word", ARGUMENT, tutor, () -> tutor.addWord(0));
         CHECK.is("wordCount()", 40, tutor.wordCount());
         CHECK.is("word(39)", Typing.oneOf40(39), tutor.word(39));
